@@ -161,6 +161,8 @@ public final class PromisesTest {
         faultDue("scale 99;", 8);
         faultDue("scale 99 1 1", 11);
         faultDue("hero 0;boaster 99;modest 5;child 7", NONE);
+        faultDue("hero 99;boaster 0;modest 0;child 99", NONE);
+        faultDue("modest 99;child 0", NONE);
         faultDue("hero 100", 5);
         faultDue("boaster 100", 8);
         faultDue("modest 100", 7);
@@ -576,6 +578,11 @@ public final class PromisesTest {
         due("17: joint below", pot.need(0, -1), UNKNOWN);
         CowardsPot last = told("hall 2;scale 99 1;hero 0;hero 1");
         due("17: all of 99", last.need(0, 0), 99);
+        CowardsPot tie = told("hall 2;scale 90 20;hero 0;hero 0;sort 20 0;sort 19 0");
+        repeat(tie, 4, 0, 0);
+        tie.deed(0, 1);
+        due("17: 100 would be too much", tie.need(1, 0), NONE);
+        due("17: beside him", tie.need(1, 1), 70);
         CowardsPot most = told("hall 2;scale 99 1;hero 0;hero 99;sort 20 0");
         repeat(most, 50, 0, 0);
         repeat(most, 50, 1, 0);
@@ -607,6 +614,9 @@ public final class PromisesTest {
         for (int k = NONE; k < 3; k++) {
             due("18: the least fear by three", three.deeds(0, 0, k), sevens[k + 1]);
         }
+        CowardsPot calm = told("hall 2;scale 30 10;hero 30;sort 10 1;sort 20 5");
+        due("18: less fear goes before fewer deeds", calm.deeds(0, 0, NONE), 2);
+        due("18: of the first", calm.deeds(0, 0, 1), 0);
         CowardsPot none = told("hero 99");
         due("18: no sorts", none.deeds(0, 0, NONE), NONE);
         CowardsPot fear = told("hall 2;scale 10 5;hero 0;sort 10 11;sort 1 0");
@@ -679,6 +689,20 @@ public final class PromisesTest {
         pot.seen(31, 1);
         due("22: none", pot.tells(), NONE);
         due("22: nothing changes", pot.count(7), 5);
+        due("22: of all scales, five joints", new CowardsPot().tells(), 28);
+        due("22: two joints", told("hall 2").tells(), 44);
+        CowardsPot nine = told("hall 9");
+        due("22: nine joints", nine.tells(), 17);
+        nine.seen(0, 8);
+        due("22: the heel for nothing", nine.tells(), 51);
+        nine.forget();
+        nine.seen(30, 8);
+        nine.seen(40, 7);
+        due("22: by the first joint's bound", nine.tells(), 85);
+        CowardsPot two = told("hall 2");
+        two.seen(98, 0);
+        two.seen(97, 1);
+        due("22: ten of twenty", two.tells(), 87);
     }
 
     private static void promise23() {
@@ -692,6 +716,8 @@ public final class PromisesTest {
         due("23: four of ten in lowest terms", pot.chance(2, 1, 1, 4, 1), 5);
         due("23: half", pot.chance(0, 1, 0, 5, 0), 1);
         due("23: a half in lowest terms", pot.chance(0, 1, 0, 5, 1), 2);
+        due("23: the second surely passes", pot.chance(0, 1, 0, 10, 0), 1);
+        due("23: of one", pot.chance(0, 1, 0, 10, 1), 1);
         due("23: never", pot.chance(2, 0, 0, 0, 0), 0);
         due("23: of one", pot.chance(2, 0, 0, 0, 1), 1);
         due("23: surely", pot.chance(0, 0, 0, 0, 0), 1);
@@ -707,6 +733,12 @@ public final class PromisesTest {
         due("23: part below", pot.chance(0, 0, 0, 0, -1), OUTSIDE);
         due("23: unknown goes first", pot.chance(0, 0, 2, 11, 2), UNKNOWN);
         due("23: nothing changes", pot.person(1, 2), 0);
+        CowardsPot first = told("hall 2;scale 10 5;hero 40;hero 30;sort 0 15");
+        due("23: the first may be afraid", first.chance(1, 0, 0, 4, 0), 2);
+        due("23: of five", first.chance(1, 0, 0, 4, 1), 5);
+        CowardsPot six = told("hall 2;scale 0 1;hero 9;hero 6;hero 6;hero 6;hero 6;hero 6;sort 2 0");
+        due("23: all five others idle, 9 of 10 each", six.chance(0, 0, 0, 1, 0), 59049);
+        due("23: of so many", six.chance(0, 0, 0, 1, 1), 100000);
         CowardsPot alone = told("hall 2;scale 0 1;hero 3;sort 1 1");
         due("23: one alone", alone.chance(0, 0, 0, 7, 0), 1);
         due("23: of one", alone.chance(0, 0, 0, 7, 1), 1);
