@@ -6,9 +6,13 @@
 public final class CowardsPot {
     public static final int NONE = -1, UNKNOWN = -2, OUTSIDE = -3, NOT = -4, FULL = -5;
 
+    private static final int FIRST_JOINTS = 5;
+    private static final int FIRST_BASE = 40;
+    private static final int FIRST_STEP = 8;
     private static final int MOST_JOINTS = 9;
     private static final int MOST_PEOPLE = 6;
     private static final int MOST_SORTS = 6;
+    private static final int MOST_LETTER = 255;
     private static final int MOST_LETTERS = 160;
     private static final int MOST_CLAUSES = 14;
     private static final int MOST_BASE = 99;
@@ -58,7 +62,7 @@ public final class CowardsPot {
     // ---- what is told
 
     public int write(int letter) {
-        if (letter < 0 || letter > 255) {
+        if (letter < 0 || letter > MOST_LETTER) {
             return OUTSIDE;
         }
         if (text.length >= MOST_LETTERS) {
@@ -415,9 +419,9 @@ public final class CowardsPot {
 
     /** All that texts tell and that calls do: joints, scale, sorts, people, the year. */
     private static final class Hall {
-        int joints = 5;
-        int base = 40;
-        int step = 8;
+        int joints = FIRST_JOINTS;
+        int base = FIRST_BASE;
+        int step = FIRST_STEP;
         int yearNumber = 0;
         int people = 0;
         int sorts = 0;
@@ -458,8 +462,8 @@ public final class CowardsPot {
         /** All as at first, but for the number of joints. */
         void clearFor(int ofJoints) {
             joints = ofJoints;
-            base = 40;
-            step = 8;
+            base = FIRST_BASE;
+            step = FIRST_STEP;
             yearNumber = 0;
             people = 0;
             sorts = 0;

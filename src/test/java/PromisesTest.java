@@ -146,6 +146,12 @@ public final class PromisesTest {
         faultDue(";hall 4", 0);
         faultDue("halls 4", 0);
         faultDue("hal 4", 0);
+        faultDue("hallz 4", 0);
+        faultDue("zhall 4", 0);
+        faultDue("hall{4", 4);
+        faultDue("hall 4:", 6);
+        faultDue("hall 4/", 6);
+        faultDue("hall`4", 4);
         faultDue("Hall 4", 0);
         faultDue("hAll 4", 0);
         faultDue("4", 0);
