@@ -10,7 +10,9 @@ import java.nio.file.Files;
 import java.nio.file.Path;
 import java.util.Arrays;
 import java.util.List;
+import java.util.Map;
 import java.util.Set;
+import java.util.TreeMap;
 import java.util.TreeSet;
 import java.util.regex.Matcher;
 import java.util.regex.Pattern;
@@ -40,6 +42,8 @@ public final class LanguageTest {
         String source = Files.readString(SOURCE, StandardCharsets.ISO_8859_1);
         words(source);
         lengths(source);
+        loops(source);
+        depths(source);
         room();
         System.out.println("face and language: " + wrong + " wrong");
         if (wrong != 0) {
@@ -86,6 +90,7 @@ public final class LanguageTest {
     private static void classInside(Class<?> inside) {
         check(Modifier.isStatic(inside.getModifiers()), "rule 2: " + inside.getName() + " is static");
         check(Modifier.isPrivate(inside.getModifiers()), "rule 1: " + inside.getName() + " is private");
+        check(Modifier.isFinal(inside.getModifiers()), "rule 12: nothing that " + inside.getName() + " calls is overridden");
         check(inside.getDeclaredFields().length <= 20, "rule 11: fields of " + inside.getName());
         Arrays.stream(inside.getDeclaredFields()).forEach(LanguageTest::staticField);
         for (Method method : inside.getDeclaredMethods()) {
@@ -126,6 +131,49 @@ public final class LanguageTest {
                 check(end - i < 60, "rule 11: length of " + lines.get(i).trim());
             }
         }
+    }
+
+    /** The end of each loop stands in its own row. */
+    private static void loops(String source) {
+        source.lines().map(String::trim).filter(row -> row.matches("(for|while|do)\\b.*")).forEach(row -> check(
+            row.matches("for \\(int (\\w+) = [^;]+; \\1 (<|<=|>|>=) [^;]+; \\1(\\+\\+|--)\\) \\{|while \\(\\w+ < text\\.length && .*"),
+            "rule 9: the end of " + row));
+    }
+
+    /** No method calls itself, by itself or through others, and no call goes more than eight deep. */
+    private static void depths(String source) {
+        Map<String, Set<String>> calls = new TreeMap<>();
+        List<String> lines = source.lines().collect(Collectors.toList());
+        Pattern head = Pattern.compile("^(?: {4}| {8})(?:[a-z]+ )*\\w+(?:\\[\\])? (\\w+)\\([^)]*\\) \\{$");
+        String method = null;
+        for (String line : lines) {
+            Matcher matcher = head.matcher(line);
+            if (matcher.find()) {
+                method = matcher.group(1);
+                calls.computeIfAbsent(method, name -> new TreeSet<>());
+            } else if (method != null) {
+                Matcher called = Pattern.compile("\\b(\\w+)\\(").matcher(line);
+                while (called.find()) {
+                    calls.get(method).add(called.group(1));
+                }
+            }
+        }
+        check(calls.keySet().containsAll(List.of("write", "count", "serveInto", "mostAlike")), "rule 11: methods are found");
+        for (String name : calls.keySet()) {
+            check(depth(calls, name, 0) <= 8, "rules 8, 11: " + name + " goes too deep, or calls itself");
+        }
+    }
+
+    private static int depth(Map<String, Set<String>> calls, String method, int above) {
+        int deepest = above + 1;
+        if (above <= 8) {
+            for (String called : calls.get(method)) {
+                if (calls.containsKey(called)) {
+                    deepest = Math.max(deepest, depth(calls, called, above + 1));
+                }
+            }
+        }
+        return deepest;
     }
 
     /** Calls make no objects: all rows are made in the constructor. */
